@@ -1,0 +1,113 @@
+/** Promise 12. */
+final class PowerTest {
+    public static void main(String[] args) {
+        refusedWhenItIsSo();
+        modelGoesOnAlone();
+        idleStaysIdle();
+        aRunBecomesAFault();
+        restIsCountedAnew();
+        sensorsAreNotRead();
+        programRotorsAndDoseStay();
+        Due.end();
+    }
+
+    private static void refusedWhenItIsSo() {
+        CentrifugeUnit x = new CentrifugeUnit();
+        Due.refused("power(true)", Due.STATE, () -> x.power(true));
+        Due.taken("power(false)", () -> x.power(false));
+        Due.refused("power(false) again", Due.STATE, () -> x.power(false));
+        Due.taken("power(true)", () -> x.power(true));
+        Due.refused("power(true) again", Due.STATE, () -> x.power(true));
+    }
+
+    private static void modelGoesOnAlone() {
+        CentrifugeUnit x = new CentrifugeUnit();
+        Units.started(x, 0, 20000, 500);
+        x.tick(3);
+        Due.same("plant()", x.plant(), 2399);
+        x.power(false);
+        Due.same("tick(1)", x.tick(1), Units.RUNNING);
+        Due.same("plant()", x.plant(), 2198);
+        Due.same("drive", x.look(Units.DRIVE), 0);
+        Due.same("brake", x.look(Units.BRAKE), 0);
+        Due.same("goal stays", x.look(Units.GOAL), 1500);
+        CentrifugeUnit y = Units.stopping();
+        y.power(false);
+        y.tick(1);
+        Due.same("no brake of a stop", y.look(Units.BRAKE), 0);
+    }
+
+    private static void idleStaysIdle() {
+        CentrifugeUnit x = Units.unpowered();
+        Due.same("tick(30) without power", x.tick(30), Units.IDLE);
+        x.power(true);
+        Due.same("state", x.look(Units.STATE), Units.IDLE);
+        Due.same("reason", x.look(Units.REASON), 0);
+        Due.same("no record", x.record(-1, 0), 0);
+    }
+
+    private static void aRunBecomesAFault() {
+        CentrifugeUnit[] all = {Units.holding(1000), Units.stopping(), Units.faulty()};
+        for (CentrifugeUnit x : all) {
+            int state = x.look(Units.STATE);
+            x.power(false);
+            Due.same("state without power", x.tick(5), state);
+            x.power(true);
+            Due.same("state", x.look(Units.STATE), Units.FAULT);
+            Due.same("reason", x.look(Units.REASON), 12);
+            Due.same("tick(1)", x.tick(1), Units.FAULT);
+            Due.same("brake", x.look(Units.BRAKE), 9);
+            Units.speed(x, 0);
+            Due.same("tick(24)", x.tick(24), Units.FAULT);
+            Due.same("tick(1)", x.tick(1), Units.IDLE);
+            Due.same("reason of the record", x.record(0, 0), 12);
+        }
+    }
+
+    private static void restIsCountedAnew() {
+        CentrifugeUnit x = new CentrifugeUnit();
+        x.tick(100);
+        Due.same("rest", x.look(Units.REST), 1);
+        x.power(false);
+        Due.same("rest when power goes", x.look(Units.REST), 0);
+        x.tick(100);
+        Due.same("rest without power", x.look(Units.REST), 0);
+        x.power(true);
+        x.tick(24);
+        Due.same("rest after 24", x.look(Units.REST), 0);
+        x.tick(1);
+        Due.same("rest after 25", x.look(Units.REST), 1);
+    }
+
+    private static void sensorsAreNotRead() {
+        CentrifugeUnit x = new CentrifugeUnit();
+        Units.speed(x, 1000);
+        x.tick(1);
+        x.power(false);
+        Units.speed(x, 2000);
+        x.tick(10);
+        Due.same("speed 0", x.look(Units.SPEED_0), 1000);
+        Due.same("speed 1", x.look(Units.SPEED_1), 1000);
+        x.power(true);
+        x.tick(1);
+        Due.same("speed 0 with power", x.look(Units.SPEED_0), 2000);
+    }
+
+    private static void programRotorsAndDoseStay() {
+        CentrifugeUnit x = Units.holding(3000);
+        x.tick(110);
+        long dose = x.dose();
+        Due.same("dose", dose, 11L * 250 * 9_000_000);
+        x.power(false);
+        x.tick(10);
+        Due.same("dose without power", x.dose(), dose);
+        x.power(true);
+        Units.speed(x, 0);
+        x.tick(25);
+        Due.same("dose behind it", x.dose(), dose);
+        Due.same("dose of the record", x.record(0, 1), dose);
+        Due.same("greatest speed of the record", x.record(0, 2), 3000);
+        Due.refused("the pattern of rotor 0", Due.ARGUMENT, () -> x.rotor(1, 7, 100, 5000, 50));
+        Due.same("one segment more", x.segment(1, 1, 0), 2);
+    }
+}
