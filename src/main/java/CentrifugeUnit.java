@@ -161,7 +161,7 @@ public final class CentrifugeUnit {
     }
 
     public long force() {
-        long used = sensors.used();
+        long used = sensors.used;
         return 1_118L * rotors.radiusOf(control.run.rotorRead) * used * used / 1_000_000L;
     }
 
@@ -201,7 +201,6 @@ public final class CentrifugeUnit {
         /** A rotor that was never told counts as none: its rows hold what no rotor has. */
         Rotors() {
             Arrays.fill(patterns, NONE);
-            Arrays.fill(limits, LIMIT_OF_NONE);
             Arrays.fill(inertias, INERTIA_OF_NONE);
         }
 
@@ -333,20 +332,16 @@ public final class CentrifugeUnit {
         int commutatorTells = TRUE_ONE;
         int tachoSpeed;
         int commutatorSpeed;
+        int used;
+        int lesser;
 
         void sense(Model model) {
             long time = tachoTells == TRUE_ONE ? model.microsecondsOfTurn() : tachoTells;
             long count = commutatorTells == TRUE_ONE ? model.countInTick() : commutatorTells;
             tachoSpeed = time <= 0L ? 0 : (int) Math.min(MOST_SPEED, 60_000_000L / time);
             commutatorSpeed = (int) Math.min(MOST_SPEED, 10L * count);
-        }
-
-        int used() {
-            return Math.max(tachoSpeed, commutatorSpeed);
-        }
-
-        int lesser() {
-            return Math.min(tachoSpeed, commutatorSpeed);
+            used = Math.max(tachoSpeed, commutatorSpeed);
+            lesser = Math.min(tachoSpeed, commutatorSpeed);
         }
     }
 
@@ -362,8 +357,8 @@ public final class CentrifugeUnit {
         int differingRow;
 
         void count(Sensors sensors) {
-            int used = sensors.used();
-            int difference = used - sensors.lesser();
+            int used = sensors.used;
+            int difference = used - sensors.lesser;
             restRow = used == 0 ? restRow + 1 : 0;
             shakingRow = shaking > 200 + used / 20 ? shakingRow + 1 : 0;
             differingRow = difference > 100 + used / 10 ? differingRow + 1 : 0;
@@ -590,7 +585,7 @@ public final class CentrifugeUnit {
         private void readSensors(Model model) {
             sensors.sense(model);
             watch.count(sensors);
-            int used = sensors.used();
+            int used = sensors.used;
             run.turns += used;
             if (turning() && run.turns >= Run.TURNS_TO_READ) {
                 run.readPattern(rotors);
@@ -618,7 +613,7 @@ public final class CentrifugeUnit {
             if (run.wrongPattern) {
                 return WRONG_ROTOR;
             }
-            if (sensors.used() > rotors.limitOf(run.rotorRead)) {
+            if (sensors.used > rotors.limitOf(run.rotorRead)) {
                 return TOO_FAST;
             }
             if (watch.shakesTooLong()) {
@@ -629,7 +624,7 @@ public final class CentrifugeUnit {
 
         private void addDose() {
             if (state == RUNNING) {
-                long lesser = sensors.lesser();
+                long lesser = sensors.lesser;
                 run.dose += rotors.radiusOf(run.rotorRead) * lesser * lesser;
             }
         }
@@ -669,7 +664,7 @@ public final class CentrifugeUnit {
         }
 
         private boolean ramp(int target, int slope) {
-            int used = sensors.used();
+            int used = sensors.used;
             if (run.ticksInSegment == 1) {
                 run.goal = used;
             }
@@ -680,7 +675,7 @@ public final class CentrifugeUnit {
 
         private boolean slowDown(int target, int strength) {
             brake = strength;
-            if (sensors.used() > target) {
+            if (sensors.used > target) {
                 return false;
             }
             run.goal = target;
@@ -688,7 +683,7 @@ public final class CentrifugeUnit {
         }
 
         private void keepToGoal() {
-            int missing = run.goal - sensors.used();
+            int missing = run.goal - sensors.used;
             if (missing < -ROOM_ABOVE_GOAL) {
                 brake = BRAKE_ABOVE_GOAL;
             } else if (run.goal != 0) {

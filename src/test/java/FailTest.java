@@ -6,6 +6,7 @@ final class FailTest {
         whatTheCommutatorTells();
         fromTheNextTickOn();
         trueOnesFollowTheModel();
+        tachoIsBlindBelow60000();
         tenTicksInARow();
         differenceThatIsAllowed();
         rowIsBroken();
@@ -45,6 +46,7 @@ final class FailTest {
         told(0, 600, 100000);
         told(0, 601, 99833);
         told(0, 7000, 8571);
+        told(0, 397351, 150);
         told(0, 1000000, 60);
     }
 
@@ -88,6 +90,28 @@ final class FailTest {
         Due.isTrue("slow and fast speeds were seen", slow && fast);
     }
 
+    private static void tachoIsBlindBelow60000() {
+        slow(80, 174, 59999, 0);
+        slow(82, 176, 60000, 60);
+    }
+
+    /** Two ticks of a ramp, the second with a heavier rotor, bring the model to that very speed. */
+    private static void slow(int slope, int inertia, long v, int speed) {
+        CentrifugeUnit x = new CentrifugeUnit();
+        x.rotor(0, 7, 100, 5000, 1);
+        x.rotor(1, 8, 100, 5000, inertia);
+        Units.speed(x, 0);
+        x.put(0);
+        Units.started(x, 0, 20000, slope);
+        x.tick(1);
+        x.put(1);
+        x.tick(1);
+        Due.same("plant()", x.plant(), v);
+        x.fail(0, -1);
+        x.tick(1);
+        Due.same("speed 0 at " + v, x.look(Units.SPEED_0), speed);
+    }
+
     private static CentrifugeUnit differing(int tacho, int commutator) {
         CentrifugeUnit x = Units.withRotor();
         x.fail(0, tacho == 0 ? 0 : 60_000_000 / tacho);
@@ -110,6 +134,10 @@ final class FailTest {
         Due.same("800 and 980", differing(800, 980).tick(50), Units.RUNNING);
         Due.same("800 and 1,000", differing(800, 1000).tick(50), Units.RUNNING);
         Due.same("800 and 1,010", differing(800, 1010).tick(50), Units.FAULT);
+        CentrifugeUnit x = differing(0, 1000);
+        x.fail(0, 75093);
+        Due.same("799 and 1,000", x.tick(50), Units.FAULT);
+        Due.same("799 is told", x.look(Units.SPEED_0), 799);
         Due.same("0 and 110", differing(0, 110).tick(50), Units.RUNNING);
         Due.same("0 and 120", differing(0, 120).tick(50), Units.FAULT);
     }

@@ -7,6 +7,8 @@ final class StartTest {
         needsPower();
         beginsAnew();
         goalBeginsAtZero();
+        programBeginsAnew();
+        wrongRotorIsForgotten();
         Due.end();
     }
 
@@ -70,6 +72,37 @@ final class StartTest {
         x.tick(1);
         Due.same("read at 300,000", x.look(Units.ROTOR), 0);
         Due.same("dose of one tick", x.dose(), 250L * 9_000_000);
+    }
+
+    private static void programBeginsAnew() {
+        CentrifugeUnit x = Units.withRotor();
+        x.tick(25);
+        Units.started(x, 1, 1, 0, 1, 3, 0);
+        x.tick(3);
+        Due.same("at the second segment", x.look(Units.SEGMENT), 1);
+        x.stop();
+        Due.same("idle", x.tick(1), Units.IDLE);
+        x.start();
+        Due.same("at the first segment", x.look(Units.SEGMENT), 0);
+        x.tick(1);
+        Due.same("through the first segment", x.look(Units.SEGMENT), 1);
+        Due.same("two ticks of the second", x.tick(2), Units.RUNNING);
+        x.stop();
+        x.tick(1);
+        Units.started(x, 1, 2, 0);
+        Due.same("the first tick of a hold", x.tick(1), Units.RUNNING);
+        Due.same("the second", x.tick(1), Units.IDLE);
+    }
+
+    private static void wrongRotorIsForgotten() {
+        CentrifugeUnit x = Units.holding(3000);
+        x.put(-1);
+        x.tick(100);
+        Due.same("wrong rotor", x.look(Units.REASON), 2);
+        Units.speed(x, 0);
+        x.tick(25);
+        Units.started(x, 1, 10, 0);
+        Due.same("the next run", x.tick(5), Units.RUNNING);
     }
 
     private static void goalBeginsAtZero() {

@@ -4,8 +4,10 @@ final class TickTest {
         edges();
         manyTicksAreManyTimesOne();
         modelGrowsAndFalls();
+        modelFollowsTheOrders();
         brakeSlowsTheModel();
         patternIsReadAt300000();
+        patternIsNotReadAt299999();
         patternIsReadWhenStopping();
         patternThatNoRotorHas();
         patternThatChanges();
@@ -67,6 +69,22 @@ final class TickTest {
         Due.same("drive", x.look(Units.DRIVE), 100);
     }
 
+    private static void modelFollowsTheOrders() {
+        CentrifugeUnit x = Units.started(light(), 0, 2900, 40, 1, 50, 0, 3, 700, 5, 1, 50, 0);
+        boolean driven = false;
+        boolean braked = false;
+        for (int i = 0; i < 1000; i++) {
+            long v = x.plant();
+            x.tick(1);
+            v += 1000L * x.look(Units.DRIVE) / 20;
+            long want = v - v / 2000 - 200 - 10_000L * x.look(Units.BRAKE) / 20;
+            Due.same("plant() at tick " + (i + 1), x.plant(), want < 0 ? 0 : want);
+            driven |= x.look(Units.DRIVE) > 0;
+            braked |= x.look(Units.BRAKE) == 5;
+        }
+        Due.isTrue("it was driven and braked", driven && braked);
+    }
+
     private static void brakeSlowsTheModel() {
         CentrifugeUnit x = new CentrifugeUnit();
         Units.started(x, 0, 20000, 500);
@@ -105,6 +123,28 @@ final class TickTest {
         Due.same("the greater speed at 297,000", y.look(Units.ROTOR), -1);
         y.tick(1);
         Due.same("the greater speed at 300,000", y.look(Units.ROTOR), 0);
+    }
+
+    private static void patternIsNotReadAt299999() {
+        CentrifugeUnit x = Units.holding(3000);
+        x.tick(99);
+        nextTickAt2999(x);
+        Due.same("at 299,999", x.look(Units.ROTOR), -1);
+        x.tick(1);
+        Due.same("a tick later", x.look(Units.ROTOR), 0);
+        x.put(-1);
+        Units.speed(x, 3000);
+        x.tick(99);
+        nextTickAt2999(x);
+        Due.same("at 299,999 again", x.look(Units.STATE), Units.RUNNING);
+        Due.same("a tick later", x.tick(1), Units.FAULT);
+    }
+
+    private static void nextTickAt2999(CentrifugeUnit x) {
+        x.fail(0, 20006);
+        x.fail(1, 299);
+        x.tick(1);
+        Due.same("speed 0", x.look(Units.SPEED_0), 2999);
     }
 
     private static void patternIsReadWhenStopping() {
@@ -154,6 +194,10 @@ final class TickTest {
         x.fail(1, 301);
         Due.same("3,010 before", x.tick(1), Units.FAULT);
         Due.same("reason", x.look(Units.REASON), 3);
+        CentrifugeUnit z = Units.holding(3000);
+        z.fail(0, 19993);
+        Due.same("3,001 before", z.tick(1), Units.FAULT);
+        Due.same("3,001 is told", z.look(Units.SPEED_0), 3001);
         CentrifugeUnit y = Units.holding(3000);
         y.tick(100);
         Units.speed(y, 5000);
