@@ -547,11 +547,10 @@ public final class CentrifugeUnit {
             reason = why;
         }
 
-        /** A lid asked to open before the power went must not open when rest is unknown again. */
+        /** The coil's remaining ticks stay: without power the control does nothing, so none is fed. */
         void powerGoes() {
             powered = false;
             watch.forget();
-            lid.coilTicksLeft = 0;
         }
 
         void powerComes() {

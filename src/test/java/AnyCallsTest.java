@@ -2,8 +2,10 @@ import java.util.Random;
 
 /** Whatever is called in whatever state: nothing but the document's exceptions, answers in their bounds. */
 final class AnyCallsTest {
-    private static final int RUNS = 400;
-    private static final int CALLS = 512;
+    private static final int RUNS = 5000;
+
+    /** Each is followed by 14 looks: 512 in all. */
+    private static final int CALLS = 34;
 
     public static void main(String[] args) {
         Random random = new Random(20261115L);

@@ -1,4 +1,4 @@
-/** Promise 8. */
+/** Promise 8, and the fault of a lid that is not locked. */
 final class BoltTest {
     public static void main(String[] args) {
         boolean[] contact = {false, true};
@@ -6,12 +6,15 @@ final class BoltTest {
             for (boolean b : contact) {
                 lockedIsAWithoutB(a, b);
                 toldWithoutPower(a, b);
+                notLookedAtWhenIdle(a, b);
             }
         }
-        noneIsLookedAtWhenIdle();
+        lockedAgainIsTooLate();
+        lockedAgainBeforeTheTick();
         Due.end();
     }
 
+    /** "the lid is not LOCKED (reason 1)"; "LOCKED is a without b" */
     private static void lockedIsAWithoutB(boolean a, boolean b) {
         boolean locked = a && !b;
         CentrifugeUnit x = Units.holding(1000);
@@ -33,11 +36,26 @@ final class BoltTest {
         Due.refused("start() with bolt(" + a + ", " + b + ")", a && !b ? null : Due.STATE, x::start);
     }
 
-    private static void noneIsLookedAtWhenIdle() {
+    private static void notLookedAtWhenIdle(boolean a, boolean b) {
         CentrifugeUnit x = Units.withRotor();
-        x.bolt(false, true);
-        Due.same("tick(30) with an open lid", x.tick(30), Units.IDLE);
+        x.bolt(a, b);
+        Due.same("tick(30) with bolt(" + a + ", " + b + ")", x.tick(30), Units.IDLE);
         Due.same("reason", x.look(Units.REASON), 0);
-        Due.taken("open() when it is open", x::open);
+    }
+
+    private static void lockedAgainIsTooLate() {
+        CentrifugeUnit x = Units.holding(1000);
+        x.bolt(true, true);
+        x.tick(1);
+        x.bolt(true, false);
+        Due.same("a fault stays one", x.tick(5), Units.FAULT);
+        Due.same("reason", x.look(Units.REASON), 1);
+    }
+
+    private static void lockedAgainBeforeTheTick() {
+        CentrifugeUnit x = Units.holding(1000);
+        x.bolt(false, true);
+        x.bolt(true, false);
+        Due.same("no tick saw it", x.tick(1), Units.RUNNING);
     }
 }

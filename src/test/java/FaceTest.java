@@ -7,11 +7,16 @@ import java.util.TreeSet;
 
 /** The document's public face, and nothing else visible. */
 final class FaceTest {
+    private static final String ARGUMENT = " IllegalArgumentException";
+    private static final String STATE = " IllegalStateException";
+
     private static final String[] FACE = {
-        "void rotor(int,int,int,int,int)", "void put(int)", "int segment(int,int,int)", "void start()",
-        "void stop()", "void open()", "void bolt(boolean,boolean)", "void shake(int)", "void chamber(int)",
-        "void fail(int,int)", "void power(boolean)", "int tick(int)", "int look(int)", "long dose()",
-        "long force()", "long plant()", "long record(int,int)"};
+        "void rotor(int,int,int,int,int)" + ARGUMENT + STATE, "void put(int)" + ARGUMENT,
+        "int segment(int,int,int)" + ARGUMENT + STATE, "void start()" + STATE, "void stop()" + STATE,
+        "void open()" + STATE, "void bolt(boolean,boolean)", "void shake(int)" + ARGUMENT,
+        "void chamber(int)" + ARGUMENT, "void fail(int,int)" + ARGUMENT, "void power(boolean)" + STATE,
+        "int tick(int)" + ARGUMENT, "int look(int)" + ARGUMENT, "long dose()", "long force()", "long plant()",
+        "long record(int,int)" + ARGUMENT + " IndexOutOfBoundsException"};
 
     public static void main(String[] args) {
         Class<?> face = CentrifugeUnit.class;
@@ -68,6 +73,10 @@ final class FaceTest {
         for (Class<?> p : m.getParameterTypes()) {
             text.append(text.charAt(text.length() - 1) == '(' ? "" : ",").append(p);
         }
-        return text.append(")").toString();
+        text.append(")");
+        for (Class<?> e : m.getExceptionTypes()) {
+            text.append(' ').append(e.getSimpleName());
+        }
+        return text.toString();
     }
 }

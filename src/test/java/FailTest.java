@@ -1,34 +1,54 @@
-/** Promise 11, the sensors, and the watch for sensors that differ. */
+/** Promise 11, and the sensors. */
 final class FailTest {
     public static void main(String[] args) {
-        edges();
+        sensorIsOneOfTwo();
+        numberHasBounds();
+        refusedOneChangesNothing();
         whatTheTachoTells();
         whatTheCommutatorTells();
         fromTheNextTickOn();
         trueOnesFollowTheModel();
         tachoIsBlindBelow60000();
-        tenTicksInARow();
-        differenceThatIsAllowed();
-        rowIsBroken();
-        countedBeforeTheStart();
-        powerForgetsTheRow();
+        commutatorIsBlindBelow10000();
+        trueOnesAre100000AtMost();
+        toldWithoutPower();
         Due.end();
     }
 
-    private static void edges() {
+    /** "(0 tacho, 1 commutator)"; "no such sensor" */
+    private static void sensorIsOneOfTwo() {
         CentrifugeUnit x = new CentrifugeUnit();
-        for (int sensor = 0; sensor < 2; sensor++) {
-            int s = sensor;
-            for (int tells : new int[] {-1, 0, 1000000}) {
-                Due.taken("fail(" + s + ", " + tells + ")", () -> x.fail(s, tells));
+        for (int sensor : new int[] {-1, 2, Integer.MIN_VALUE, Integer.MAX_VALUE}) {
+            for (int tells : new int[] {-1, 0, 5}) {
+                Due.refused("fail(" + sensor + ", " + tells + ")", Due.ARGUMENT, () -> x.fail(sensor, tells));
+            }
+        }
+    }
+
+    /** "or a number that is not -1 .. 1,000,000" */
+    private static void numberHasBounds() {
+        CentrifugeUnit x = new CentrifugeUnit();
+        for (int sensor : new int[] {0, 1}) {
+            for (int tells : new int[] {-1, 0, 1, 999999, 1000000}) {
+                Due.taken("fail(" + sensor + ", " + tells + ")", () -> x.fail(sensor, tells));
             }
             for (int tells : new int[] {-2, 1000001, Integer.MIN_VALUE, Integer.MAX_VALUE}) {
-                Due.refused("fail(" + s + ", " + tells + ")", Due.ARGUMENT, () -> x.fail(s, tells));
+                Due.refused("fail(" + sensor + ", " + tells + ")", Due.ARGUMENT, () -> x.fail(sensor, tells));
             }
         }
-        for (int sensor : new int[] {-1, 2, Integer.MIN_VALUE, Integer.MAX_VALUE}) {
-            Due.refused("fail(" + sensor + ", 0)", Due.ARGUMENT, () -> x.fail(sensor, 0));
+    }
+
+    private static void refusedOneChangesNothing() {
+        CentrifugeUnit x = new CentrifugeUnit();
+        Units.speed(x, 1000);
+        for (int sensor : new int[] {0, 1}) {
+            Due.refused("fail(" + sensor + ", -2)", Due.ARGUMENT, () -> x.fail(sensor, -2));
+            Due.refused("fail(" + sensor + ", 1000001)", Due.ARGUMENT, () -> x.fail(sensor, 1000001));
         }
+        Due.refused("fail(2, 5)", Due.ARGUMENT, () -> x.fail(2, 5));
+        x.tick(1);
+        Due.same("speed 0", x.look(Units.SPEED_0), 1000);
+        Due.same("speed 1", x.look(Units.SPEED_1), 1000);
     }
 
     private static void told(int sensor, int tells, int speed) {
@@ -39,6 +59,7 @@ final class FailTest {
         Due.same("the other speed", x.look(Units.SPEED_1 - sensor), 0);
     }
 
+    /** "SPEED 0 (of the tacho) is 0 for 0, otherwise 60,000,000 / it; .. 100,000 at most" */
     private static void whatTheTachoTells() {
         told(0, 0, 0);
         told(0, 1, 100000);
@@ -50,6 +71,7 @@ final class FailTest {
         told(0, 1000000, 60);
     }
 
+    /** "speed 1 is 10 times the count; both are 100,000 at most" */
     private static void whatTheCommutatorTells() {
         told(1, 0, 0);
         told(1, 1, 10);
@@ -59,47 +81,60 @@ final class FailTest {
         told(1, 1000000, 100000);
     }
 
+    /** "from the next tick on; -1: the true one again"; "All are as the latest tick saw them, 0 before" */
     private static void fromTheNextTickOn() {
-        CentrifugeUnit x = new CentrifugeUnit();
-        x.fail(0, 60000);
-        Due.same("no tick yet", x.look(Units.SPEED_0), 0);
-        x.tick(1);
-        Due.same("told", x.look(Units.SPEED_0), 1000);
-        x.fail(0, -1);
-        Due.same("as the latest tick saw it", x.look(Units.SPEED_0), 1000);
-        x.tick(1);
-        Due.same("the true one", x.look(Units.SPEED_0), 0);
+        for (int sensor : new int[] {0, 1}) {
+            CentrifugeUnit x = new CentrifugeUnit();
+            x.fail(sensor, sensor == 0 ? 60000 : 100);
+            Due.same("no tick yet", x.look(Units.SPEED_0 + sensor), 0);
+            x.tick(1);
+            Due.same("told", x.look(Units.SPEED_0 + sensor), 1000);
+            x.fail(sensor, -1);
+            Due.same("as the latest tick saw it", x.look(Units.SPEED_0 + sensor), 1000);
+            x.tick(1);
+            Due.same("the true one", x.look(Units.SPEED_0 + sensor), 0);
+        }
     }
 
+    /** "60,000,000,000 / V"; "the COMMUTATOR counts V / 10,000 in a tick" */
     private static void trueOnesFollowTheModel() {
         CentrifugeUnit x = new CentrifugeUnit();
-        x.rotor(0, 7, 10, 20000, 3);
+        x.rotor(0, 7, 10, 20000, 2);
         x.put(0);
-        Units.started(x, 0, 2800, 37, 1, 100, 0, 3, 0, 1);
+        Units.started(x, 0, 2800, 73, 1, 20, 0, 3, 0, 1);
         boolean slow = false;
         boolean fast = false;
-        for (int i = 0; i < 600; i++) {
-            long v = x.plant();
+        long v = 0;
+        for (int i = 0; i < 120; i++) {
             x.tick(1);
             long turn = v < 60000 ? 0 : 60_000_000_000L / v;
             Due.same("speed 0 at " + v, x.look(Units.SPEED_0), turn == 0 ? 0 : 60_000_000L / turn);
             Due.same("speed 1 at " + v, x.look(Units.SPEED_1), v / 10000 * 10);
             slow |= v >= 10000 && v < 60000;
             fast |= v > 2_000_000;
+            v = x.plant();
         }
         Due.isTrue("slow and fast speeds were seen", slow && fast);
     }
 
+    /** "0 when V is below 60,000" */
     private static void tachoIsBlindBelow60000() {
-        slow(80, 174, 59999, 0);
-        slow(82, 176, 60000, 60);
+        Due.same("speed 0 at 59,999", at(59999, 80, 1, 174).look(Units.SPEED_0), 0);
+        Due.same("speed 0 at 60,000", at(60000, 82, 1, 176).look(Units.SPEED_0), 60);
     }
 
-    /** Two ticks of a ramp, the second with a heavier rotor, bring the model to that very speed. */
-    private static void slow(int slope, int inertia, long v, int speed) {
+    private static void commutatorIsBlindBelow10000() {
+        Due.same("speed 1 at 9,999", at(9999, 38, 5, 97).look(Units.SPEED_1), 0);
+        Due.same("speed 1 at 10,000", at(10000, 24, 5, 43).look(Units.SPEED_1), 10);
+        Due.same("speed 1 at 19,999", at(19999, 212, 5, 55).look(Units.SPEED_1), 10);
+        Due.same("speed 1 at 20,000", at(20000, 74, 50, 4).look(Units.SPEED_1), 20);
+    }
+
+    /** Two ticks of a ramp, each with a rotor of its own, bring the model to that very speed. */
+    private static CentrifugeUnit at(long v, int slope, int inertia, int nextInertia) {
         CentrifugeUnit x = new CentrifugeUnit();
-        x.rotor(0, 7, 100, 5000, 1);
-        x.rotor(1, 8, 100, 5000, inertia);
+        x.rotor(0, 7, 100, 5000, inertia);
+        x.rotor(1, 8, 100, 5000, nextInertia);
         Units.speed(x, 0);
         x.put(0);
         Units.started(x, 0, 20000, slope);
@@ -108,67 +143,34 @@ final class FailTest {
         x.tick(1);
         Due.same("plant()", x.plant(), v);
         x.fail(0, -1);
+        x.fail(1, -1);
         x.tick(1);
-        Due.same("speed 0 at " + v, x.look(Units.SPEED_0), speed);
+        return x;
     }
 
-    private static CentrifugeUnit differing(int tacho, int commutator) {
-        CentrifugeUnit x = Units.withRotor();
-        x.fail(0, tacho == 0 ? 0 : 60_000_000 / tacho);
-        x.fail(1, commutator / 10);
-        return Units.started(x, 1, 100000, 0);
-    }
-
-    private static void tenTicksInARow() {
-        CentrifugeUnit x = differing(1000, 790);
-        Due.same("tick(9)", x.tick(9), Units.RUNNING);
-        Due.same("tick(1)", x.tick(1), Units.FAULT);
-        Due.same("reason", x.look(Units.REASON), 5);
-        CentrifugeUnit y = differing(0, 2000);
-        Due.same("a dead tacho, tick(9)", y.tick(9), Units.RUNNING);
-        Due.same("a dead tacho, tick(1)", y.tick(1), Units.FAULT);
-    }
-
-    private static void differenceThatIsAllowed() {
-        Due.same("1,000 and 800", differing(1000, 800).tick(50), Units.RUNNING);
-        Due.same("800 and 980", differing(800, 980).tick(50), Units.RUNNING);
-        Due.same("800 and 1,000", differing(800, 1000).tick(50), Units.RUNNING);
-        Due.same("800 and 1,010", differing(800, 1010).tick(50), Units.FAULT);
-        CentrifugeUnit x = differing(0, 1000);
-        x.fail(0, 75093);
-        Due.same("799 and 1,000", x.tick(50), Units.FAULT);
-        Due.same("799 is told", x.look(Units.SPEED_0), 799);
-        Due.same("0 and 110", differing(0, 110).tick(50), Units.RUNNING);
-        Due.same("0 and 120", differing(0, 120).tick(50), Units.FAULT);
-    }
-
-    private static void rowIsBroken() {
-        CentrifugeUnit x = differing(1000, 700);
-        x.tick(9);
-        x.fail(1, 100);
+    /** "both are 100,000 at most", of the true speed too */
+    private static void trueOnesAre100000AtMost() {
+        CentrifugeUnit x = new CentrifugeUnit();
+        x.rotor(0, 7, 100, 20000, 1);
+        x.put(0);
+        Units.speed(x, 0);
+        Units.started(x, 0, 20000, 500);
+        x.tick(2000);
+        Due.isTrue("plant() is above 101,000,000", x.plant() > 101_000_000L);
+        x.fail(0, -1);
+        x.fail(1, -1);
         x.tick(1);
-        x.fail(1, 70);
-        Due.same("9 more", x.tick(9), Units.RUNNING);
-        Due.same("a 10th", x.tick(1), Units.FAULT);
+        Due.same("speed 0", x.look(Units.SPEED_0), 100000);
+        Due.same("speed 1", x.look(Units.SPEED_1), 100000);
     }
 
-    private static void countedBeforeTheStart() {
-        CentrifugeUnit x = Units.withRotor();
-        x.fail(1, 100);
-        Due.same("idle", x.tick(9), Units.IDLE);
-        Units.started(x, 1, 100, 0);
-        Due.same("the first tick of the run", x.tick(1), Units.FAULT);
-        Due.same("reason", x.look(Units.REASON), 5);
-    }
-
-    private static void powerForgetsTheRow() {
-        CentrifugeUnit x = Units.withRotor();
-        x.fail(1, 100);
-        x.tick(20);
-        x.power(false);
+    private static void toldWithoutPower() {
+        CentrifugeUnit x = Units.unpowered();
+        Units.speed(x, 1000);
+        x.tick(1);
+        Due.same("sensors are not read", x.look(Units.SPEED_0), 0);
         x.power(true);
-        Units.started(x, 1, 100, 0);
-        Due.same("9 ticks behind the power", x.tick(9), Units.RUNNING);
-        Due.same("the 10th", x.tick(1), Units.FAULT);
+        x.tick(1);
+        Due.same("told", x.look(Units.SPEED_0), 1000);
     }
 }

@@ -3,8 +3,10 @@ final class NewObjectTest {
     public static void main(String[] args) {
         everyLook();
         everyNumber();
-        restComesAfter25Ticks();
-        lidPowerAndChamber();
+        noProgram();
+        atRestNotYet();
+        powerIsOn();
+        lidIsLocked();
         noRotorIsTold();
         noRotorIsIn();
         objectsShareNothing();
@@ -25,11 +27,17 @@ final class NewObjectTest {
         Due.same("force()", x.force(), 0);
         Due.same("plant()", x.plant(), 0);
         Due.same("record(-1, 0)", x.record(-1, 0), 0);
+    }
+
+    /** "no program" */
+    private static void noProgram() {
+        CentrifugeUnit x = new CentrifugeUnit();
         Due.refused("start() without a program", Due.STATE, x::start);
         Due.same("segment(1, 5, 0)", x.segment(1, 5, 0), 1);
     }
 
-    private static void restComesAfter25Ticks() {
+    /** "at rest not yet" */
+    private static void atRestNotYet() {
         CentrifugeUnit x = new CentrifugeUnit();
         Due.refused("open() at once", Due.STATE, x::open);
         Due.same("tick(24)", x.tick(24), Units.IDLE);
@@ -38,23 +46,27 @@ final class NewObjectTest {
         Due.same("rest after 25", x.look(Units.REST), 1);
     }
 
-    private static void lidPowerAndChamber() {
+    /** "power on" */
+    private static void powerIsOn() {
         CentrifugeUnit x = new CentrifugeUnit();
         Due.refused("power(true)", Due.STATE, () -> x.power(true));
-        x.segment(4, 2000, 0);
-        x.segment(4, 1999, 0);
-        Due.taken("start() with the lid as it is", x::start);
-        x.tick(1);
-        Due.same("2,000 is cold enough for 2,000", x.look(Units.SEGMENT), 1);
-        x.tick(10);
-        Due.same("2,000 is too warm for 1,999", x.look(Units.SEGMENT), 1);
+        Due.taken("power(false)", () -> x.power(false));
     }
 
-    private static void noRotorIsTold() {
+    /** "at first locked" */
+    private static void lidIsLocked() {
         CentrifugeUnit x = new CentrifugeUnit();
-        for (int k = 0; k < 4; k++) {
-            int place = k;
-            Due.taken("rotor " + k, () -> x.rotor(place, place, 10, 100, 1));
+        x.segment(1, 5, 0);
+        Due.taken("start() with the lid as it is", x::start);
+        Due.same("tick(1)", x.tick(1), Units.RUNNING);
+    }
+
+    /** "ROTORS 0 .. 3 (none at first)" */
+    private static void noRotorIsTold() {
+        for (int pattern = 0; pattern < 256; pattern++) {
+            CentrifugeUnit x = new CentrifugeUnit();
+            int free = pattern;
+            Due.taken("pattern " + pattern, () -> x.rotor(free % 4, free, 10, 100, 1));
         }
     }
 

@@ -2,15 +2,20 @@
 final class PowerTest {
     public static void main(String[] args) {
         refusedWhenItIsSo();
+        refusedOneChangesNothing();
         modelGoesOnAlone();
+        callsOfTheControlAreRefused();
+        otherCallsAreNot();
         idleStaysIdle();
         aRunBecomesAFault();
         restIsCountedAnew();
         sensorsAreNotRead();
         programRotorsAndDoseStay();
+        recordsStay();
         Due.end();
     }
 
+    /** "IllegalStateException: it is so" */
     private static void refusedWhenItIsSo() {
         CentrifugeUnit x = new CentrifugeUnit();
         Due.refused("power(true)", Due.STATE, () -> x.power(true));
@@ -20,6 +25,18 @@ final class PowerTest {
         Due.refused("power(true) again", Due.STATE, () -> x.power(true));
     }
 
+    private static void refusedOneChangesNothing() {
+        CentrifugeUnit x = Units.holding(1000);
+        x.tick(1);
+        Due.refused("power(true)", Due.STATE, () -> x.power(true));
+        Due.same("a run goes on", x.tick(1), Units.RUNNING);
+        CentrifugeUnit y = Units.withRotor();
+        y.tick(25);
+        Due.refused("power(true)", Due.STATE, () -> y.power(true));
+        Due.same("rest stays", y.look(Units.REST), 1);
+    }
+
+    /** "(ticks go on for the model alone, with drive, brake, coil 0)" */
     private static void modelGoesOnAlone() {
         CentrifugeUnit x = new CentrifugeUnit();
         Units.started(x, 0, 20000, 500);
@@ -37,15 +54,58 @@ final class PowerTest {
         Due.same("no brake of a stop", y.look(Units.BRAKE), 0);
     }
 
+    /** "all calls of the control (start, stop, open, segment, rotor) are refused (ISE)" */
+    private static void callsOfTheControlAreRefused() {
+        CentrifugeUnit idle = Units.unpowered();
+        CentrifugeUnit running = Units.holding(1000);
+        running.tick(1);
+        running.power(false);
+        for (CentrifugeUnit x : new CentrifugeUnit[] {idle, running}) {
+            Due.refused("start()", Due.STATE, x::start);
+            Due.refused("stop()", Due.STATE, x::stop);
+            Due.refused("open()", Due.STATE, x::open);
+            Due.refused("segment(1, 1, 0)", Due.STATE, () -> x.segment(1, 1, 0));
+            Due.refused("segment(-1, 0, 0)", Due.STATE, () -> x.segment(-1, 0, 0));
+            Due.refused("rotor(1, 9, 120, 900, 80)", Due.STATE, () -> x.rotor(1, 9, 120, 900, 80));
+        }
+    }
+
+    private static void otherCallsAreNot() {
+        CentrifugeUnit x = Units.unpowered();
+        Due.taken("put(0)", () -> x.put(0));
+        Due.taken("bolt(true, false)", () -> x.bolt(true, false));
+        Due.taken("shake(300)", () -> x.shake(300));
+        Due.taken("chamber(100)", () -> x.chamber(100));
+        Due.taken("fail(0, -1)", () -> x.fail(0, -1));
+        Due.taken("tick(1)", () -> x.tick(1));
+        Due.taken("look(0)", () -> x.look(0));
+        Due.taken("dose()", x::dose);
+        Due.taken("force()", x::force);
+        Due.taken("plant()", x::plant);
+        Due.taken("record(-1, 0)", () -> x.record(-1, 0));
+        x.power(true);
+        Units.started(x, 1, 100, 0);
+        x.tick(5);
+        Due.same("the shaking was told", x.look(Units.REASON), 4);
+    }
+
+    /** "On again: IDLE" */
     private static void idleStaysIdle() {
         CentrifugeUnit x = Units.unpowered();
         Due.same("tick(30) without power", x.tick(30), Units.IDLE);
         x.power(true);
         Due.same("state", x.look(Units.STATE), Units.IDLE);
         Due.same("reason", x.look(Units.REASON), 0);
+        x.tick(30);
         Due.same("no record", x.record(-1, 0), 0);
+        CentrifugeUnit y = Units.ended();
+        y.power(false);
+        y.power(true);
+        Due.same("state behind a run", y.look(Units.STATE), Units.IDLE);
+        Due.same("reason of the latest run", y.look(Units.REASON), 11);
     }
 
+    /** "or, if a run was going on, FAULT with reason 12" */
     private static void aRunBecomesAFault() {
         CentrifugeUnit[] all = {Units.holding(1000), Units.stopping(), Units.faulty()};
         for (CentrifugeUnit x : all) {
@@ -64,6 +124,7 @@ final class PowerTest {
         }
     }
 
+    /** "rest is counted anew"; "from 0 when power goes or comes" */
     private static void restIsCountedAnew() {
         CentrifugeUnit x = new CentrifugeUnit();
         x.tick(100);
@@ -79,6 +140,7 @@ final class PowerTest {
         Due.same("rest after 25", x.look(Units.REST), 1);
     }
 
+    /** "sensors are not read" */
     private static void sensorsAreNotRead() {
         CentrifugeUnit x = new CentrifugeUnit();
         Units.speed(x, 1000);
@@ -93,6 +155,7 @@ final class PowerTest {
         Due.same("speed 0 with power", x.look(Units.SPEED_0), 2000);
     }
 
+    /** "The program, rotors and the dose stay." */
     private static void programRotorsAndDoseStay() {
         CentrifugeUnit x = Units.holding(3000);
         x.tick(110);
@@ -109,5 +172,14 @@ final class PowerTest {
         Due.same("greatest speed of the record", x.record(0, 2), 3000);
         Due.refused("the pattern of rotor 0", Due.ARGUMENT, () -> x.rotor(1, 7, 100, 5000, 50));
         Due.same("one segment more", x.segment(1, 1, 0), 2);
+    }
+
+    private static void recordsStay() {
+        CentrifugeUnit x = Units.ended();
+        x.power(false);
+        Due.same("records without power", x.record(-1, 0), 1);
+        Due.same("reason without power", x.record(0, 0), 11);
+        x.power(true);
+        Due.same("records with power", x.record(-1, 0), 1);
     }
 }

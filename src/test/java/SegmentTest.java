@@ -1,45 +1,24 @@
-/** Promise 4. */
+/** Promise 4, and the PROGRAM of the terms. */
 final class SegmentTest {
+    private static final int[] FAR = {Integer.MIN_VALUE, Integer.MAX_VALUE};
+
     public static void main(String[] args) {
-        edges();
+        kindIsOneOfFive();
+        ramp();
+        holdForTicks();
+        holdForADose();
+        brake();
+        pause();
         numbersThatAKindHasNot();
+        answersHowMany();
         twelveAtMost();
-        emptied();
-        statesThatRefuse();
+        fullOneIsEmptied();
+        emptyOneIsEmptied();
+        notIdle();
+        noPower();
         argumentsComeFirst();
         keptFromRunToRun();
         Due.end();
-    }
-
-    private static void edges() {
-        said(0, 0, 1, null);
-        said(0, 20000, 500, null);
-        said(0, -1, 1, Due.ARGUMENT);
-        said(0, 20001, 1, Due.ARGUMENT);
-        said(0, 0, 0, Due.ARGUMENT);
-        said(0, 0, 501, Due.ARGUMENT);
-        said(1, 1, 0, null);
-        said(1, 100000, 0, null);
-        said(1, 0, 0, Due.ARGUMENT);
-        said(1, 100001, 0, Due.ARGUMENT);
-        said(2, 1, 0, null);
-        said(2, 1000000, 0, null);
-        said(2, 0, 0, Due.ARGUMENT);
-        said(2, 1000001, 0, Due.ARGUMENT);
-        said(3, 0, 1, null);
-        said(3, 20000, 9, null);
-        said(3, -1, 1, Due.ARGUMENT);
-        said(3, 20001, 1, Due.ARGUMENT);
-        said(3, 0, 0, Due.ARGUMENT);
-        said(3, 0, 10, Due.ARGUMENT);
-        said(4, -2000, 0, null);
-        said(4, 4000, 0, null);
-        said(4, -2001, 0, Due.ARGUMENT);
-        said(4, 4001, 0, Due.ARGUMENT);
-        said(-2, 1, 1, Due.ARGUMENT);
-        said(5, 1, 1, Due.ARGUMENT);
-        said(Integer.MIN_VALUE, 1, 1, Due.ARGUMENT);
-        said(Integer.MAX_VALUE, 1, 1, Due.ARGUMENT);
     }
 
     private static void said(int kind, int a, int b, Class<?> want) {
@@ -48,8 +27,67 @@ final class SegmentTest {
         Due.same("how many behind it", x.segment(1, 1, 0), want == null ? 2 : 1);
     }
 
+    /** "IllegalArgumentException: kind .. not so" */
+    private static void kindIsOneOfFive() {
+        for (int kind : new int[] {0, 1, 2, 3, 4}) {
+            said(kind, 1, 1, null);
+        }
+        for (int kind : new int[] {-2, 5, Integer.MIN_VALUE, Integer.MAX_VALUE}) {
+            said(kind, 1, 1, Due.ARGUMENT);
+        }
+    }
+
+    private static void bounds(int kind, int least, int most, int b) {
+        said(kind, least, b, null);
+        said(kind, most, b, null);
+        said(kind, least - 1, b, Due.ARGUMENT);
+        said(kind, most + 1, b, Due.ARGUMENT);
+        for (int a : FAR) {
+            said(kind, a, b, Due.ARGUMENT);
+        }
+    }
+
+    private static void secondBounds(int kind, int a, int most) {
+        said(kind, a, 1, null);
+        said(kind, a, most, null);
+        said(kind, a, 0, Due.ARGUMENT);
+        said(kind, a, -1, Due.ARGUMENT);
+        said(kind, a, most + 1, Due.ARGUMENT);
+        for (int b : FAR) {
+            said(kind, a, b, Due.ARGUMENT);
+        }
+    }
+
+    /** "0 RAMP to a speed a (0 .. 20,000) by a slope b (1 .. 500 a tick)" */
+    private static void ramp() {
+        bounds(0, 0, 20000, 1);
+        secondBounds(0, 100, 500);
+    }
+
+    /** "1 HOLD for a ticks (1 .. 100,000)" */
+    private static void holdForTicks() {
+        bounds(1, 1, 100000, 0);
+    }
+
+    /** "2 HOLD until the DOSE is a thousand millions or more (a 1 .. 1,000,000)" */
+    private static void holdForADose() {
+        bounds(2, 1, 1000000, 0);
+    }
+
+    /** "3 BRAKE with strength b (1 .. 9) until the used speed is a or less (0 .. 20,000)" */
+    private static void brake() {
+        bounds(3, 0, 20000, 1);
+        secondBounds(3, 100, 9);
+    }
+
+    /** "4 PAUSE until the chamber is at a or colder (-2,000 .. 4,000" */
+    private static void pause() {
+        bounds(4, -2000, 4000, 0);
+    }
+
+    /** "(those that its kind has not are not looked at)" */
     private static void numbersThatAKindHasNot() {
-        for (int b : new int[] {Integer.MIN_VALUE, -1, 501, Integer.MAX_VALUE}) {
+        for (int b : new int[] {Integer.MIN_VALUE, -1, 0, 10, 501, Integer.MAX_VALUE}) {
             said(1, 1, b, null);
             said(2, 1, b, null);
             said(4, 1, b, null);
@@ -57,35 +95,73 @@ final class SegmentTest {
         }
     }
 
-    private static void twelveAtMost() {
+    /** "One more segment; .. : how many" */
+    private static void answersHowMany() {
         CentrifugeUnit x = new CentrifugeUnit();
         for (int i = 1; i <= 12; i++) {
-            Due.same("segment " + i, x.segment(1, i, 0), i);
+            Due.same("segment " + i, x.segment(i % 5, 1, 1), i);
         }
-        Due.refused("a 13th", Due.STATE, () -> x.segment(1, 1, 0));
+    }
+
+    private static CentrifugeUnit full() {
+        CentrifugeUnit x = Units.withRotor();
+        for (int i = 1; i <= 12; i++) {
+            x.segment(1, 1, 0);
+        }
+        return x;
+    }
+
+    /** "a row of up to 12 SEGMENTS"; "IllegalStateException: .. or there are 12" */
+    private static void twelveAtMost() {
+        CentrifugeUnit x = full();
+        for (int kind = 0; kind < 5; kind++) {
+            int one = kind;
+            Due.refused("a 13th of kind " + kind, Due.STATE, () -> x.segment(one, 1, 1));
+        }
         Due.refused("a 13th that is wrong", Due.ARGUMENT, () -> x.segment(1, 0, 0));
-        Due.same("emptied", x.segment(-1, 0, 0), 0);
-        Due.same("one again", x.segment(1, 1, 0), 1);
+        x.start();
+        Due.same("12 ticks of 12 segments", x.tick(12), Units.STOPPING);
     }
 
-    private static void emptied() {
-        CentrifugeUnit x = new CentrifugeUnit();
-        x.segment(1, 1, 0);
-        x.segment(-1, 0, 0);
+    /** "kind -1: the program is empty", with 12 too */
+    private static void fullOneIsEmptied() {
+        CentrifugeUnit x = full();
+        Due.same("segment(-1, 0, 0)", x.segment(-1, 0, 0), 0);
         Due.refused("start() with an emptied program", Due.STATE, x::start);
+        Due.same("one again", x.segment(1, 1, 0), 1);
+        Due.taken("start()", x::start);
+        Due.same("one tick of one segment", x.tick(1), Units.STOPPING);
     }
 
-    private static void statesThatRefuse() {
-        CentrifugeUnit[] all = {Units.holding(1000), Units.stopping(), Units.faulty(), Units.unpowered()};
-        for (CentrifugeUnit x : all) {
+    private static void emptyOneIsEmptied() {
+        CentrifugeUnit x = new CentrifugeUnit();
+        Due.same("segment(-1, 0, 0) of none", x.segment(-1, 0, 0), 0);
+        Due.same("and again", x.segment(-1, 0, 0), 0);
+        Due.same("one", x.segment(1, 1, 0), 1);
+    }
+
+    /** "IllegalStateException: not IDLE" */
+    private static void notIdle() {
+        for (CentrifugeUnit x : new CentrifugeUnit[] {Units.holding(1000), Units.stopping(), Units.faulty()}) {
             Due.refused("segment(1, 1, 0)", Due.STATE, () -> x.segment(1, 1, 0));
             Due.refused("segment(-1, 0, 0)", Due.STATE, () -> x.segment(-1, 0, 0));
         }
     }
 
+    /** "IllegalStateException: .. no power" */
+    private static void noPower() {
+        CentrifugeUnit x = Units.unpowered();
+        Due.refused("segment(1, 1, 0)", Due.STATE, () -> x.segment(1, 1, 0));
+        Due.refused("segment(-1, 0, 0)", Due.STATE, () -> x.segment(-1, 0, 0));
+        x.power(true);
+        Due.same("with power again", x.segment(1, 1, 0), 2);
+    }
+
     private static void argumentsComeFirst() {
-        CentrifugeUnit x = Units.holding(1000);
-        Due.refused("a wrong one when running", Due.ARGUMENT, () -> x.segment(9, 1, 0));
+        for (CentrifugeUnit x : new CentrifugeUnit[] {Units.holding(1000), Units.unpowered()}) {
+            Due.refused("a wrong kind in a wrong state", Due.ARGUMENT, () -> x.segment(9, 1, 0));
+            Due.refused("a wrong number in a wrong state", Due.ARGUMENT, () -> x.segment(1, 0, 0));
+        }
     }
 
     private static void keptFromRunToRun() {

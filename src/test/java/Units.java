@@ -43,11 +43,24 @@ final class Units {
         return x;
     }
 
-    /** Running in a hold that ends in no test, at this speed. */
-    static CentrifugeUnit holding(int speed) {
+    /** Started with this program, both sensors telling this speed. */
+    static CentrifugeUnit at(int speed, int... program) {
         CentrifugeUnit x = withRotor();
         speed(x, speed);
-        return started(x, 1, 100_000, 0);
+        return started(x, program);
+    }
+
+    /** One tick, and what it is to order. */
+    static void orders(String what, CentrifugeUnit x, int goal, int drive, int brake) {
+        x.tick(1);
+        Due.same(what + ", goal", x.look(GOAL), goal);
+        Due.same(what + ", drive", x.look(DRIVE), drive);
+        Due.same(what + ", brake", x.look(BRAKE), brake);
+    }
+
+    /** Running in a hold that ends in no test, at this speed. */
+    static CentrifugeUnit holding(int speed) {
+        return at(speed, 1, 100_000, 0);
     }
 
     static CentrifugeUnit stopping() {
@@ -66,6 +79,23 @@ final class Units {
         return x;
     }
 
+    /** IDLE and at rest behind a run that was stopped (reason 11). */
+    static CentrifugeUnit ended() {
+        CentrifugeUnit x = stopping();
+        speed(x, 0);
+        x.tick(25);
+        return x;
+    }
+
+    /** A rotor that is light enough to reach every goal below its limit of 5,000. */
+    static CentrifugeUnit light() {
+        CentrifugeUnit x = new CentrifugeUnit();
+        x.rotor(2, 9, 100, 5000, 20);
+        x.put(2);
+        return x;
+    }
+
+    /** Idle, with a program, without power. */
     static CentrifugeUnit unpowered() {
         CentrifugeUnit x = withRotor();
         x.segment(1, 1, 0);
@@ -74,7 +104,7 @@ final class Units {
         return x;
     }
 
-    /** One run after another of a hold of one tick, each ended at rest. */
+    /** A run of a hold of one tick, ended at rest. */
     static void shortRun(CentrifugeUnit x) {
         started(x, 1, 1, 0);
         x.tick(30);
