@@ -8,6 +8,7 @@ final class FailTest {
         whatTheCommutatorTells();
         fromTheNextTickOn();
         trueOnesFollowTheModel();
+        tachoDividesExactly();
         tachoIsBlindBelow60000();
         commutatorIsBlindBelow10000();
         trueOnesAre100000AtMost();
@@ -115,6 +116,32 @@ final class FailTest {
             v = x.plant();
         }
         Due.isTrue("slow and fast speeds were seen", slow && fast);
+    }
+
+    /** "60,000,000,000 / V": speeds that divide this number, and the next one */
+    private static void tachoDividesExactly() {
+        Due.same("speed 0 at 12,000,000", fastAt(12_000_000L, 1, 124, 56, 7).look(Units.SPEED_0), 12000);
+        Due.same("speed 0 at 6,605,747", fastAt(6_605_747L, 2, 137, 431, 5).look(Units.SPEED_0), 6606);
+    }
+
+    /** Full drive with one rotor for many ticks and with two others for one each: that very speed. */
+    private static CentrifugeUnit fastAt(long v, int inertia, int ticks, int second, int third) {
+        CentrifugeUnit x = new CentrifugeUnit();
+        x.rotor(0, 7, 100, 5000, inertia);
+        x.rotor(1, 8, 100, 5000, second);
+        x.rotor(2, 9, 100, 5000, third);
+        Units.speed(x, 0);
+        Units.started(x, 0, 20000, 500);
+        x.put(0);
+        x.tick(ticks);
+        x.put(1);
+        x.tick(1);
+        x.put(2);
+        x.tick(1);
+        Due.same("plant()", x.plant(), v);
+        x.fail(0, -1);
+        x.tick(1);
+        return x;
     }
 
     /** "0 when V is below 60,000" */

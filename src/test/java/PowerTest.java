@@ -4,6 +4,7 @@ final class PowerTest {
         refusedWhenItIsSo();
         refusedOneChangesNothing();
         modelGoesOnAlone();
+        ordersAreThoseOfATick();
         callsOfTheControlAreRefused();
         otherCallsAreNot();
         idleStaysIdle();
@@ -11,6 +12,7 @@ final class PowerTest {
         restIsCountedAnew();
         sensorsAreNotRead();
         programRotorsAndDoseStay();
+        rotorThatIsInStays();
         recordsStay();
         Due.end();
     }
@@ -52,6 +54,26 @@ final class PowerTest {
         y.power(false);
         y.tick(1);
         Due.same("no brake of a stop", y.look(Units.BRAKE), 0);
+    }
+
+    /** "DRIVE .. BRAKE .. and the COIL .. are the control's orders of this tick": power gives none */
+    private static void ordersAreThoseOfATick() {
+        CentrifugeUnit x = new CentrifugeUnit();
+        Units.started(x, 0, 20000, 500);
+        x.tick(1);
+        x.power(false);
+        Due.same("drive of the latest tick", x.look(Units.DRIVE), 100);
+        x.tick(1);
+        x.power(true);
+        Due.same("state", x.look(Units.STATE), Units.FAULT);
+        Due.same("brake of the latest tick", x.look(Units.BRAKE), 0);
+        CentrifugeUnit y = Units.ended();
+        y.open();
+        y.tick(1);
+        y.power(false);
+        Due.same("coil of the latest tick", y.look(Units.COIL), 1);
+        y.tick(1);
+        Due.same("coil of a tick without power", y.look(Units.COIL), 0);
     }
 
     /** "all calls of the control (start, stop, open, segment, rotor) are refused (ISE)" */
@@ -172,6 +194,17 @@ final class PowerTest {
         Due.same("greatest speed of the record", x.record(0, 2), 3000);
         Due.refused("the pattern of rotor 0", Due.ARGUMENT, () -> x.rotor(1, 7, 100, 5000, 50));
         Due.same("one segment more", x.segment(1, 1, 0), 2);
+    }
+
+    /** "The rotor that is in the machine": power does not take it out */
+    private static void rotorThatIsInStays() {
+        CentrifugeUnit x = Units.withRotor();
+        x.power(false);
+        x.power(true);
+        Units.speed(x, 3000);
+        Units.started(x, 1, 100000, 0);
+        Due.same("at its reading", x.tick(100), Units.RUNNING);
+        Due.same("rotor read", x.look(Units.ROTOR), 0);
     }
 
     private static void recordsStay() {

@@ -9,6 +9,7 @@ final class TurnsTest {
         notReadWhenIdle();
         notReadInAFault();
         patternThatNoRotorHas();
+        patternThatNoRotorHasBehindAnother();
         patternThatIsAnotherOne();
         sameOneAgainIsFine();
         onlyTheReadingSeesIt();
@@ -111,6 +112,17 @@ final class TurnsTest {
         Due.same("at 300,000", x.tick(1), Units.FAULT);
         Due.same("reason", x.look(Units.REASON), 2);
         Due.same("rotor read", x.look(Units.ROTOR), -1);
+    }
+
+    /** "a pattern was read that no rotor has": no rotor's pattern was read but the first one's */
+    private static void patternThatNoRotorHasBehindAnother() {
+        CentrifugeUnit x = Units.holding(3000);
+        x.tick(100);
+        x.put(2);
+        Due.same("at the second reading", x.tick(100), Units.FAULT);
+        Due.same("reason", x.look(Units.REASON), 2);
+        Due.same("rotor read", x.look(Units.ROTOR), 0);
+        Due.same("force()", x.force(), 1118L * 250 * 9_000_000 / 1_000_000);
     }
 
     private static CentrifugeUnit withTwoRotors() {
